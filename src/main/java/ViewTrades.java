@@ -33,7 +33,6 @@ public final class ViewTrades {
     private final City kept = new City();
     private boolean isKept = false;
     private final Tape tape = new Tape();
-    private final CityText text = new CityText(tape);
     private final Sheet[] sheets = new Sheet[SHEETS];
     private final int[] told = new int[FINDINGS];
     // What each view is WORTH in all ON the HOURS asked latest; a view earns the same out of any frame.
@@ -400,7 +399,7 @@ public final class ViewTrades {
         if (!isWithin(n, 1, 4)) {
             return tell(BEYOND);
         }
-        if (tape.length + n > MOST_BYTES) {
+        if (!tape.hasRoomFor(n)) {
             return tell(FULL);
         }
         tape.append(bytes, n);
@@ -408,19 +407,17 @@ public final class ViewTrades {
     }
 
     public int wipe() {
-        int before = tape.length;
-        tape.length = 0;
-        return before;
+        return tape.clear();
     }
 
     public int city() {
         // Read onto a copy: a FAULT behind good ITEMS must leave nothing of them.
         trial.become(city);
-        int answer = text.readOnto(trial);
+        int answer = tape.readOnto(trial);
         if (answer >= 0) {
             city.become(trial);
         }
-        tape.length = 0;
+        tape.clear();
         return answer;
     }
 
@@ -991,23 +988,11 @@ public final class ViewTrades {
         }
     }
 
-    private static final class Tape {
-        final int[] bytes = new int[MOST_BYTES];
-        int length = 0;
-
-        void append(int number, int n) {
-            for (int i = n - 1; i >= 0; i--) {
-                bytes[length] = number >> 8 * i & 255;
-                length++;
-            }
-        }
-    }
-
     /**
      * Reads THE TEXT of a CITY token by token. A token that can't stand where it is stays the
      * current one, so that a FAULT is always at its place; the end is a token, too.
      */
-    private static final class CityText {
+    private static final class Tape {
         private static final int END = 0;
         private static final int WORD = 1;
         private static final int NUMBER = 2;
@@ -1015,14 +1000,28 @@ public final class ViewTrades {
         private static final int NO_TOKEN = 4;
         private static final int MOST_NUMBER = 9999;
 
-        private final Tape tape;
+        private final int[] bytes = new int[MOST_BYTES];
+        int length = 0;
         private int token = END;
         private int place = 0;
         private int behind = 0;
         private int number = 0;
 
-        CityText(Tape tape) {
-            this.tape = tape;
+        boolean hasRoomFor(int n) {
+            return length + n <= MOST_BYTES;
+        }
+
+        void append(int source, int n) {
+            for (int i = n - 1; i >= 0; i--) {
+                bytes[length] = source >> 8 * i & 255;
+                length++;
+            }
+        }
+
+        int clear() {
+            int before = length;
+            length = 0;
+            return before;
         }
 
         // How many ITEMS came to the city, or -1 less the place of the FAULT.
@@ -1127,7 +1126,7 @@ public final class ViewTrades {
                 return false;
             }
             for (int i = 0; i < word.length(); i++) {
-                if (tape.bytes[place + i] != word.charAt(i)) {
+                if (bytes[place + i] != word.charAt(i)) {
                     return false;
                 }
             }
@@ -1140,26 +1139,26 @@ public final class ViewTrades {
 
         private void advance() {
             place = behind;
-            while (place < tape.length && tape.bytes[place] == ' ') {
+            while (place < length && bytes[place] == ' ') {
                 place++;
             }
             behind = place;
-            if (place >= tape.length) {
+            if (place >= length) {
                 token = END;
-            } else if (isLetter(tape.bytes[place])) {
+            } else if (isLetter(bytes[place])) {
                 token = WORD;
                 passWord();
-            } else if (isDigit(tape.bytes[place])) {
+            } else if (isDigit(bytes[place])) {
                 token = NUMBER;
                 passNumber();
             } else {
-                token = tape.bytes[place] == ';' ? SEMICOLON : NO_TOKEN;
+                token = bytes[place] == ';' ? SEMICOLON : NO_TOKEN;
                 behind = place + 1;
             }
         }
 
         private void passWord() {
-            while (behind < tape.length && isLetter(tape.bytes[behind])) {
+            while (behind < length && isLetter(bytes[behind])) {
                 behind++;
             }
         }
@@ -1167,8 +1166,8 @@ public final class ViewTrades {
         // A number above 9999 may stand nowhere: how far above doesn't matter, and must not wrap around.
         private void passNumber() {
             number = 0;
-            while (behind < tape.length && isDigit(tape.bytes[behind])) {
-                int digit = tape.bytes[behind] - '0';
+            while (behind < length && isDigit(bytes[behind])) {
+                int digit = bytes[behind] - '0';
                 number = Math.min(MOST_NUMBER + 1, 10 * number + digit);
                 behind++;
             }

@@ -479,6 +479,10 @@ final class ViewTradesTest {
         due("nothing changes", x.now(0) + x.now(3) + x.of(STREET, 1), 410);
         x.money(1, 99998);
         due("most money", x.on(1, 400), 99999);
+        hoursToGo(23);
+        x.fine(STREET, 10);
+        x.money(2, 100);
+        due("past midnight", x.on(2, 3), 100 + 3 + 6 + 2);
         due("401", x.on(0, 401), BEYOND);
         due("-1", x.on(0, -1), BEYOND);
         due("owner 4", x.on(4, 1), BEYOND);
@@ -552,6 +556,15 @@ final class ViewTradesTest {
         due("sold at once", x.best(2, 1), 2);
         due("201", x.best(0, 201), BEYOND);
         due("0", x.best(0, 0), BEYOND);
+        x.set(0, 0, 3);
+        x.set(1, 0, 0);
+        x.turn(1, YARD);
+        due("what can be paid", x.best(0, 48), 1);
+        x.money(0, 45);
+        due("frames 1 and 2", x.best(0, 48), 12);
+        x.money(0, 40);
+        x.set(0, 0, 0);
+        x.set(1, 0, 1);
         due("owner 4", x.best(4, 1), BEYOND);
         due("owner -1", x.best(-1, 1), BEYOND);
         due("nothing changes", x.now(4) + x.now(3), 347);
@@ -617,6 +630,7 @@ final class ViewTradesTest {
         x.frame(YARD, 0);
         x.frame(GARDEN, 1);
         due("enough already", x.least(0, 0, 1, 102), 0);
+        due("nothing wanted", x.least(0, 0, 1, 0), 0);
         due("a little", x.least(0, 0, 1, 103), 10);
         due("more", x.least(0, 0, 10, 200), 80);
         due("99", x.least(1, 1, 1, 100 + 2 + 9 + 3 + 99), 99);
@@ -742,6 +756,8 @@ final class ViewTradesTest {
         dueFault("yard;", 4);
         dueFault("yards 0", 0);
         dueFault("yar", 0);
+        dueFault("tea 0", 0);
+        dueFault("yardz 0", 0);
         dueFault("Yard 0", 0);
         dueFault(" ;", 1);
         dueFault("7", 0);
@@ -794,6 +810,9 @@ final class ViewTradesTest {
         due("none behind it", x.write(0, 40, 1), BEYOND);
         due("anew", x.sheet(0, 16, 40), 40);
         due("all 0", x.write(0, 39, 1), 0);
+        due("all 0", x.write(0, 0, 1), 0);
+        x.sheet(0, 16, 40);
+        due("the first, too", x.write(0, 0, 1), 0);
         due("0 numbers", x.sheet(0, 64, 0), 0);
         due("is there", x.lays(0), 0);
         due("bits 0", x.sheet(0, 0, 40), 0);
@@ -839,6 +858,7 @@ final class ViewTradesTest {
 
         copies();
         books();
+        booksPastMidnight();
     }
 
     private void copies() {
@@ -971,6 +991,24 @@ final class ViewTradesTest {
         x.book(0, 1);
         due("most money: all but a sky below 4 earn 1", x.read(0, 1, 1), 500 + 96);
         due("nothing changes", x.of(1, 0) * 100 + x.of(1, 1), 310);
+        c.end();
+    }
+
+    private void booksPastMidnight() {
+        begin("promise 35: read past midnight");
+        x.frame(STREET, 0);
+        x.sheet(0, 64, 7);
+        hoursToGo(20);
+        x.fine(0, 10);
+        x.book(0, 0);
+        due("6 3 6 3 6 2: just a street of 10, for a garden doesn't wear in spring", x.read(0, 0, 0), 1);
+        x.fine(0, 11);
+        x.book(0, 0);
+        due("6 3 6 3 6 3: a street of 11 to 19, a garden of 1", x.read(0, 0, 0), 10);
+        hoursToGo(8 * 24);
+        x.fine(0, 10);
+        x.book(0, 0);
+        due("or a garden behind spring", x.read(0, 0, 0), 2);
         c.end();
     }
 
